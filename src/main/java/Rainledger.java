@@ -1887,12 +1887,8 @@ public final class Rainledger {
             above.add(left);
         }
 
-        /** Told but once: what is written is taken out of it. */
+        /** Told but once: what is written is taken out of it. The number under is above 0 everywhere here. */
         private void write(StringBuilder into) {
-            if (under.isNegative()) {
-                above.negate();
-                under.negate();
-            }
             if (above.isNegative()) {
                 above.negate();
                 into.append('-');
