@@ -1515,21 +1515,10 @@ public final class PromisesTest {
             x.row(1, block * 48, 9999 - 3 * block, -410 - block % 3, 48);
             x.row(2, block * 48, -9000 + block * 7, block * 5, 48);
         }
-        is(true, x.fill(2, 3, 0, 959, 100).length() > 25);
-        String[] parts = x.combination(2, 3, 0, 959, 100).split(" ");
-        is(3, parts.length);
-        java.math.BigDecimal sum = decimal(parts[0])
-            .add(decimal(parts[1]).multiply(java.math.BigDecimal.valueOf(x.value(0, 100, false))))
-            .add(decimal(parts[2]).multiply(java.math.BigDecimal.valueOf(x.value(1, 100, false))));
-        java.math.BigDecimal apart = sum.subtract(decimal(x.fill(2, 3, 0, 959, 100))).abs();
-        is(true, apart.compareTo(new java.math.BigDecimal("0.0000000001")) < 0);
-    }
-
-    private static java.math.BigDecimal decimal(String fraction) {
-        String[] parts = fraction.split("/");
-        java.math.BigDecimal above = new java.math.BigDecimal(parts[0]);
-        return parts.length == 1 ? above
-            : above.divide(new java.math.BigDecimal(parts[1]), 60, java.math.RoundingMode.HALF_EVEN);
+        // Worked out by another program, with whole numbers of any length.
+        is("-16447916214722913014682/1839565489084336997", x.fill(2, 3, 0, 959, 100));
+        is("-13509517690897182519742/1839565489084336997 -8800148915523384842/1839565489084336997"
+            + " -9110082117105744950/1839565489084336997", x.combination(2, 3, 0, 959, 100));
     }
 
     private static void combination() {

@@ -34,6 +34,7 @@ public final class RandomRunsTest {
     private final int wide;
     private final int largest;
     private final int wildness;
+    private final boolean isFull;
     private int made;
 
     private RandomRunsTest(long seed) {
@@ -43,6 +44,7 @@ public final class RandomRunsTest {
         wide = new int[] {24, 72, 240, 480}[random.nextInt(4)];
         largest = new int[] {3, 20, 400, 9999}[random.nextInt(4)];
         wildness = new int[] {0, 50, 12}[random.nextInt(3)];
+        isFull = random.nextInt(4) == 0;
     }
 
     public static void main(String[] args) throws Exception {
@@ -79,7 +81,25 @@ public final class RandomRunsTest {
         }
     }
 
+    /** Many full days one behind the other, for long SERIES and many KNOWN HOURS. */
+    private String fillDays() throws Exception {
+        String fault = null;
+        int blocks = 8 + random.nextInt(14);
+        for (int block = 0; block < blocks && fault == null; block++) {
+            for (int station = 0; station < 3 && fault == null; station++) {
+                fault = call("row", row(station, Math.min(35016, home + 48 * block), 48));
+            }
+        }
+        return fault;
+    }
+
     private String run() throws Exception {
+        if (isFull) {
+            String fault = fillDays();
+            if (fault != null) {
+                return fault;
+            }
+        }
         while (made < 510) {
             int kind = random.nextInt(made < 60 ? 12 : 24);
             String name;
@@ -183,7 +203,7 @@ public final class RandomRunsTest {
         int toDay = Math.min(1460, day + random.nextInt(30));
         switch (name) {
             case "reading": return of(s, h, value());
-            case "row": return row(s, h);
+            case "row": return row(s, h, 1 + random.nextInt(48));
             case "right": return of(s, h, value(), 1 + random.nextInt(4));
             case "withdraw": return of(s, h);
             case "bar": return of(s, h, Math.min(35063, h + random.nextInt(30)));
@@ -216,7 +236,7 @@ public final class RandomRunsTest {
             case "breaks": case "breakCost":
                 return of(s, day, Math.min(1460, day + random.nextInt(24)), price(), 1 + random.nextInt(4));
             case "fill": case "combination":
-                return of(s, others(s), h, Math.min(35063, h + random.nextInt(200)), random.nextInt(3) > 0 ? to : hour());
+                return of(s, others(s), h, Math.min(35063, h + random.nextInt(isFull ? 1000 : 200)), random.nextInt(3) > 0 ? to : hour());
             case "slip": return of(s, h, random.nextInt(16) & ~(1 << s), random.nextInt(largest + 2));
             case "rose": return of(s, h, to, 2 + random.nextInt(7));
             case "pairs": return of(s, station(), h, to);
@@ -263,8 +283,7 @@ public final class RandomRunsTest {
         return random.nextInt(20) == 0 ? set : set & ~(1 << station);
     }
 
-    private Object[] row(int station, int hour) {
-        int many = 1 + random.nextInt(48);
+    private Object[] row(int station, int hour, int many) {
         int step = random.nextInt(21) - 10;
         int value = value();
         if (Math.abs(value + step * (many - 1)) > 9999) {
