@@ -932,6 +932,13 @@ public final class PromisesTest {
             is(empty[what], x.ofSpan(1, 11, 12, what));
         }
         is(1, x.ofSpan(1, 16, 16, 0));
+        // Alone in the archive, with nothing behind it.
+        Rainledger y = new Rainledger();
+        is(11, y.ofSpan(0, 0, 10, 5));
+        y.reading(0, 5, -9);
+        is(5, y.ofSpan(0, 0, 10, 5));
+        is(7, y.ofSpan(0, 0, 12, 5));
+        is(-9, y.ofSpan(0, 0, 35063, 3));
         noIndex(() -> x.ofSpan(4, 0, 1, 0));
         noIndex(() -> x.ofSpan(0, -1, 1, 7));
         noIndex(() -> x.ofSpan(0, 1, 35064, 0));
@@ -985,10 +992,31 @@ public final class PromisesTest {
         is(VOID, x.ranked(1, 0, 35063, 0));
         x.bar(0, 3, 3);
         is(3, x.ranked(0, 0, 23, 0));
+        rankedOfManyShapes();
         noIndex(() -> x.ranked(4, 0, 0, -1));
         noIndex(() -> x.ranked(0, -5, 0, 0));
         noArgument(() -> x.ranked(0, 1, 0, 0));
         noArgument(() -> x.ranked(0, 0, 0, -1));
+    }
+
+    /** Rows of 1 to n, rising, falling and mixed: the one with k ahead of it is k + 1. */
+    private static void rankedOfManyShapes() {
+        for (int many = 1; many <= 90; many++) {
+            Rainledger x = new Rainledger();
+            for (int i = 0; i < many; i++) {
+                x.reading(0, i, i + 1);
+                x.reading(1, i, many - i);
+                x.reading(2, i, many % 7 == 0 ? i + 1 : i * 7 % many + 1);
+            }
+            for (int station = 0; station < 3; station++) {
+                for (int k = 0; k <= many; k++) {
+                    is(k < many ? k + 1 : VOID, x.ranked(station, 0, 35063, k));
+                }
+                is(many - 1, x.rank(station, 0, 35063, many));
+            }
+            // Both rows have the same VALUES.
+            is(0, x.pairs(0, 1, 0, 35063));
+        }
     }
 
     private static void slide() {
@@ -1140,8 +1168,9 @@ public final class PromisesTest {
         is("0 2 5", x.records(0, true));
         is("0 3 35063", x.records(0, false));
         is("3", x.records(1, true));
-        x.reading(2, 0, 9999);
+        x.reading(2, 0, 9998);
         is("3", x.records(1, true));
+        is("3", x.records(1, false));
         is("0", x.records(2, false));
         x.bar(0, 0, 2);
         is("3 5", x.records(0, true));
@@ -1174,6 +1203,8 @@ public final class PromisesTest {
         noIndex(() -> x.runs(4, 0, 0, 0, 0));
         noIndex(() -> x.runs(0, -1, 0, 0, 1));
         noIndex(() -> x.runs(0, 0, 1461, 0, 1));
+        noIndex(() -> x.runs(0, 1461, 0, 0, 1));
+        noIndex(() -> x.runs(0, 0, -1, 0, 1));
         noArgument(() -> x.runs(0, 1, 0, 0, 1));
         noArgument(() -> x.runs(0, 0, 0, 0, 0));
     }
@@ -1195,7 +1226,11 @@ public final class PromisesTest {
         is(366, x.frost(1, 2001, 0, false));
         is(NONE, x.frost(1, 2002, MAX, false));
         is(1460, x.frost(1, 2003, -1, true));
+        is(1460, x.frost(1, 2003, -1, false));
         is(NONE, x.frost(1, 2003, MIN, true));
+        is(NONE, x.frost(1, 2003, -2, false));
+        is(NONE, x.frost(2, 2003, MAX, true));
+        is(NONE, x.frost(3, 2000, MAX, false));
         x.bar(1, 20 * 24, 21 * 24);
         is(10, x.frost(1, 2000, -5, false));
         noIndex(() -> x.frost(4, 1999, 0, true));
@@ -1227,6 +1262,8 @@ public final class PromisesTest {
         noIndex(() -> x.degrees(4, 0, 0, 0));
         noIndex(() -> x.degrees(0, 0, 1461, 0));
         noIndex(() -> x.degrees(0, -1, 0, 0));
+        noIndex(() -> x.degrees(0, 1461, 0, 0));
+        noIndex(() -> x.degrees(0, 0, -1, 0));
         noArgument(() -> x.degrees(0, 1, 0, 0));
     }
 
@@ -1375,6 +1412,8 @@ public final class PromisesTest {
     private static void partingIsRight(PartingCall call) {
         noIndex(() -> call.run(-1, 0, 0, 1));
         noIndex(() -> call.run(0, 1461, 0, 1));
+        noIndex(() -> call.run(1461, 1460, 0, 1));
+        noIndex(() -> call.run(0, -1, 0, 1));
         noIndex(() -> call.run(MAX, MAX, 0, 1));
         noArgument(() -> call.run(1, 0, 0, 1));
         noArgument(() -> call.run(0, 24, 0, 1));
@@ -1444,6 +1483,32 @@ public final class PromisesTest {
         is("6680265746796/5", y.breakCost(0, 0, 23, 99999, 4));
         partingIsRight((from, to, price, least) -> x.breakCost(0, from, to, price, least));
         noIndex(() -> x.breakCost(-1, 0, 0, 0, 9));
+        partingOfGreatNumbers();
+    }
+
+    /** Worked out by another program, with fractions of whole numbers of any length. */
+    private static void partingOfGreatNumbers() {
+        Rainledger x = fullDays(9366, 9846, 8444, -9140, -9327, -9076, 9366, 9999, 9275, -9140, -9149, -9076,
+            9118, 9846, 9275, -9140, -9327, -9076, 9463, 9999, 9275, -9140, -9327, -9076);
+        is("3 6 9 12 15 18 21", x.breaks(0, 0, 23, 99999, 3));
+        is("1062654797", x.breakCost(0, 0, 23, 99999, 3));
+        Rainledger y = fullDays(9466, 9149, -9938, -9820, 9342, -9133, -9645, 9109, -9444, 9152, -9865, 9301,
+            -9464, -9999, 9983, 9705, 9490, 9298, 9413, -9115, 9841, -9642, 9888, 9184);
+        is("2 4 6 9 12 14 16 19 22", y.breaks(0, 0, 23, 0, 2));
+        is("944325125611/2", y.breakCost(0, 0, 23, 0, 2));
+        is("3 7 10 14 19", y.breaks(0, 0, 23, 99999, 3));
+        is("46093294203049/60", y.breakCost(0, 0, 23, 99999, 3));
+        is("5 10 14 19", y.breaks(0, 0, 23, 0, 4));
+        is("16532657583831/20", y.breakCost(0, 0, 23, 0, 4));
+    }
+
+    /** A day for each VALUE, with 23 READINGS that have it. */
+    private static Rainledger fullDays(int... values) {
+        Rainledger x = new Rainledger();
+        for (int day = 0; day < values.length; day++) {
+            x.row(0, day * 24, values[day], 0, 23);
+        }
+        return x;
     }
 
     private static void fill() {
@@ -1467,6 +1532,7 @@ public final class PromisesTest {
         x.bar(0, 2, 2);
         is("21", x.fill(1, 1, 0, 2, 3));
         fillOfTwo();
+        fillOfEachSet();
         noIndex(() -> x.fill(4, 0, 0, 0, 0));
         noIndex(() -> x.fill(1, 0, 0, 35064, 0));
         noIndex(() -> x.fill(1, 0, -1, 0, 0));
@@ -1506,6 +1572,35 @@ public final class PromisesTest {
         is("7 2 -3", x.combination(2, 9, 0, 6, 4));
         is("-", x.fill(2, 9, 0, 6, 5));
         is("-", x.fill(2, 9, 0, 6, 6));
+    }
+
+    /** The same numbers at every STATION and both others; of one other alone the lines are z = 11/2 + 2x and z = 8 - 3y. */
+    private static void fillOfEachSet() {
+        for (int station = 0; station < 4; station++) {
+            for (int one = 0; one < 4; one++) {
+                for (int two = one + 1; two < 4; two++) {
+                    if (one != station && two != station) {
+                        fillOfSet(station, one, two);
+                    }
+                }
+            }
+        }
+    }
+
+    private static void fillOfSet(int station, int one, int two) {
+        Rainledger x = new Rainledger();
+        put(x, one, 100, 0, 1, 0, 1, 5);
+        put(x, two, 100, 0, 0, 1, 1, 4);
+        put(x, station, 100, 7, 9, 4, 6);
+        int both = 1 << one | 1 << two;
+        for (int turn = 0; turn < 2; turn++) {
+            is("5", x.fill(station, both, 90, 110, 104));
+            is("31/2", x.fill(station, 1 << one, 90, 110, 104));
+            is("-4", x.fill(station, 1 << two, 90, 110, 104));
+            is("7 2 -3", x.combination(station, both, 90, 110, 104));
+            is("11/2 2", x.combination(station, 1 << one, 90, 110, 104));
+            is("8 -3", x.combination(station, 1 << two, 90, 110, 104));
+        }
     }
 
     private static void fillOfGreatNumbers() {
@@ -1705,6 +1800,20 @@ public final class PromisesTest {
             y.bar(station, 35030 + station, 35040);
         }
         is(new RainledgerFold().of(y), y.digest());
+        digestOfFew();
+    }
+
+    /** With fewer READINGS than it tells, top() leaves nothing out and tells none twice. */
+    private static void digestOfFew() {
+        for (int station = 0; station < 4; station++) {
+            for (int hour : new int[] {0, 1, 35062, 35063}) {
+                Rainledger x = new Rainledger();
+                x.reading(station, hour, 1234);
+                is(new RainledgerFold().of(x), x.digest());
+                x.reading(station, 17000, -7);
+                is(new RainledgerFold().of(x), x.digest());
+            }
+        }
     }
 
     private static long emptyDigest() {
