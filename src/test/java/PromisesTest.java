@@ -1,18 +1,5 @@
 /** For each promise: ordinary calls, the edges that the document names, and wrong ones, worked out by hand. */
-public final class PromisesTest {
-    private static final int VOID = -10000;
-    private static final int NONE = -1;
-    private static final int MAX = Integer.MAX_VALUE;
-    private static final int MIN = Integer.MIN_VALUE;
-
-    private static int promise;
-    private static int wrong;
-    private static int looked;
-
-    private interface Call {
-        Object run();
-    }
-
+public final class PromisesTest extends Check {
     public static void main(String[] args) {
         acts();
         told();
@@ -21,99 +8,33 @@ public final class PromisesTest {
         days();
         comparisons();
         all();
-        System.out.println(looked + " answers looked at, " + wrong + " not as due");
-        if (wrong != 0) {
-            System.exit(1);
-        }
-    }
-
-    private static void is(Object due, Object got) {
-        looked++;
-        if (!due.equals(got)) {
-            wrong++;
-            int line = 0;
-            for (StackTraceElement frame : new Throwable().getStackTrace()) {
-                if (line == 0 && !frame.getMethodName().equals("is") && !frame.getMethodName().equals("throwing")
-                    && !frame.getMethodName().equals("noIndex") && !frame.getMethodName().equals("noArgument")
-                    && !frame.getMethodName().equals("noState")) {
-                    line = frame.getLineNumber();
-                }
-            }
-            System.out.println("promise " + promise + ", line " + line + ": answered " + got + ", due is " + due);
-        }
-    }
-
-    private static void throwing(Class<?> due, Call call) {
-        Object got;
-        try {
-            got = call.run();
-        } catch (RuntimeException e) {
-            // It is to be thrown by the class itself, not by the machine or by the library in it.
-            boolean isOwn = e.getStackTrace()[0].getClassName().startsWith("Rainledger");
-            got = isOwn ? e.getClass() : e.getStackTrace()[0];
-        }
-        is(due, got);
-    }
-
-    private static void noIndex(Call call) {
-        throwing(IndexOutOfBoundsException.class, call);
-    }
-
-    private static void noArgument(Call call) {
-        throwing(IllegalArgumentException.class, call);
-    }
-
-    private static void noState(Call call) {
-        throwing(IllegalStateException.class, call);
-    }
-
-    /** Readings from an hour on; VOID leaves one out. */
-    private static void put(Rainledger x, int station, int hour, int... values) {
-        for (int i = 0; i < values.length; i++) {
-            if (values[i] != VOID) {
-                x.reading(station, hour + i, values[i]);
-            }
-        }
-    }
-
-    private static void type(Rainledger x, String text) {
-        x.say(14, -1, -1, -1, -1, -1);
-        for (int at = 0; at < text.length(); at++) {
-            x.say("0123456789-. ".indexOf(text.charAt(at)), -1, -1, -1, -1, -1);
-        }
-    }
-
-    private static int faultOf(String text) {
-        Rainledger x = new Rainledger();
-        type(x, text);
-        is(text, x.typed());
-        return x.fault();
+        finish();
     }
 
     // ---- promises 1 to 10
 
     private static void acts() {
-        promise = 1;
+        about("promise 1");
         newObject();
-        promise = 2;
+        about("promise 2");
         reading();
-        promise = 3;
+        about("promise 3");
         row();
-        promise = 4;
+        about("promise 4");
         right();
-        promise = 5;
+        about("promise 5");
         withdraw();
-        promise = 6;
+        about("promise 6");
         bar();
-        promise = 7;
+        about("promise 7");
         free();
-        promise = 8;
+        about("promise 8");
         undo();
         undoBarred();
         undoKeeps();
-        promise = 9;
+        about("promise 9");
         lend();
-        promise = 10;
+        about("promise 10");
         join();
         joinReasons();
         joinBarred();
@@ -489,18 +410,18 @@ public final class PromisesTest {
     // ---- promises 11 to 16
 
     private static void told() {
-        promise = 11;
+        about("promise 11");
         unit();
-        promise = 12;
+        about("promise 12");
         enough();
-        promise = 13;
+        about("promise 13");
         leap();
-        promise = 14;
+        about("promise 14");
         say();
-        promise = 15;
+        about("promise 15");
         enter();
         enterWrong();
-        promise = 16;
+        about("promise 16");
         Rainledger x = new Rainledger();
         is(1, x.look());
         is(2, x.look());
@@ -654,25 +575,25 @@ public final class PromisesTest {
     // ---- promises 17 to 23
 
     private static void readings() {
-        promise = 17;
+        about("promise 17");
         value();
-        promise = 18;
+        about("promise 18");
         was();
         wasUndone();
-        promise = 19;
+        about("promise 19");
         reason();
-        promise = 20;
+        about("promise 20");
         line();
-        promise = 21;
+        about("promise 21");
         Rainledger x = new Rainledger();
         is("", x.typed());
         x.say(0, 1, 2, 3, 4, 5);
         x.say(6, 7, 8, 9, 10, 11);
         x.say(12, -1, -1, -1, -1, -1);
         is("0123456789-. ", x.typed());
-        promise = 22;
+        about("promise 22");
         fault();
-        promise = 23;
+        about("promise 23");
         quarrels();
     }
 
@@ -892,19 +813,19 @@ public final class PromisesTest {
     // ---- promises 24 to 30
 
     private static void spans() {
-        promise = 24;
+        about("promise 24");
         ofSpan();
-        promise = 25;
+        about("promise 25");
         mean();
-        promise = 26;
+        about("promise 26");
         rank();
-        promise = 27;
+        about("promise 27");
         ranked();
-        promise = 28;
+        about("promise 28");
         slide();
-        promise = 29;
+        about("promise 29");
         top();
-        promise = 30;
+        about("promise 30");
         kept();
     }
 
@@ -1001,7 +922,7 @@ public final class PromisesTest {
 
     /** Rows of 1 to n, rising, falling and mixed: the one with k ahead of it is k + 1. */
     private static void rankedOfManyShapes() {
-        for (int many = 1; many <= 90; many++) {
+        for (int many = 1; many <= 80; many++) {
             Rainledger x = new Rainledger();
             for (int i = 0; i < many; i++) {
                 x.reading(0, i, i + 1);
@@ -1103,19 +1024,19 @@ public final class PromisesTest {
     // ---- promises 31 to 37
 
     private static void days() {
-        promise = 31;
+        about("promise 31");
         climate();
-        promise = 32;
+        about("promise 32");
         records();
-        promise = 33;
+        about("promise 33");
         runs();
-        promise = 34;
+        about("promise 34");
         frost();
-        promise = 35;
+        about("promise 35");
         degrees();
-        promise = 36;
+        about("promise 36");
         month();
-        promise = 37;
+        about("promise 37");
         beside();
     }
 
@@ -1356,21 +1277,21 @@ public final class PromisesTest {
     // ---- promises 38 to 44
 
     private static void comparisons() {
-        promise = 38;
+        about("promise 38");
         breaks();
         breaksOfEqualCost();
-        promise = 39;
+        about("promise 39");
         breakCost();
-        promise = 40;
+        about("promise 40");
         fill();
         fillOfGreatNumbers();
-        promise = 41;
+        about("promise 41");
         combination();
-        promise = 42;
+        about("promise 42");
         slip();
-        promise = 43;
+        about("promise 43");
         rose();
-        promise = 44;
+        about("promise 44");
         pairs();
     }
 
@@ -1724,11 +1645,11 @@ public final class PromisesTest {
     // ---- promises 45 to 47
 
     private static void all() {
-        promise = 45;
+        about("promise 45");
         house();
-        promise = 46;
+        about("promise 46");
         isSound();
-        promise = 47;
+        about("promise 47");
         digest();
     }
 
