@@ -1481,9 +1481,9 @@ public final class Rainledger {
         private void insert(int index, int place, int value, int note) {
             grow();
             if (index >= 0 && index <= count && count < places.length) {
-                System.arraycopy(places, index, places, index + 1, count - index);
-                System.arraycopy(values, index, values, index + 1, count - index);
-                System.arraycopy(notes, index, notes, index + 1, count - index);
+                shift(places, index, index + 1, count - index);
+                shift(values, index, index + 1, count - index);
+                shift(notes, index, index + 1, count - index);
                 count++;
                 put(index, place, value, note);
             }
@@ -1498,11 +1498,17 @@ public final class Rainledger {
         }
 
         private void removeAt(int index) {
-            if (index >= 0 && index < count && count <= places.length) {
-                System.arraycopy(places, index + 1, places, index, count - index - 1);
-                System.arraycopy(values, index + 1, values, index, count - index - 1);
-                System.arraycopy(notes, index + 1, notes, index, count - index - 1);
+            if (index >= 0 && index < count) {
+                shift(places, index + 1, index, count - index - 1);
+                shift(values, index + 1, index, count - index - 1);
+                shift(notes, index + 1, index, count - index - 1);
                 count--;
+            }
+        }
+
+        private static void shift(int[] row, int from, int to, int many) {
+            if (from >= 0 && to >= 0 && many >= 0 && many <= row.length - Math.max(from, to)) {
+                System.arraycopy(row, from, row, to, many);
             }
         }
 
